@@ -11,6 +11,7 @@ public final class OneShort {
     private static final int MISSING = 5;
     private static final int SIZE = 6;
     private static final int FINDINGS = 7;
+    private static final int NO_FINDING = -1;
 
     private static final int SEATS = 16;
     private static final int PARTS = 6;
@@ -397,29 +398,11 @@ public final class OneShort {
     // ---- how nerve went
 
     public int fits(int s, int player) {
-        if (!isSheet(s)) {
-            return finding(BEYOND);
-        }
-        if (sheets[s].isMissing()) {
-            return finding(MISSING);
-        }
-        if (!isPlayer(player)) {
-            return finding(BEYOND);
-        }
-        return fitting(trial.part, player, PARTS, sheets[s]);
+        return fitting(s, player, trial.part, PARTS);
     }
 
     public int kinds(int s, int player) {
-        if (!isSheet(s)) {
-            return finding(BEYOND);
-        }
-        if (sheets[s].isMissing()) {
-            return finding(MISSING);
-        }
-        if (!isPlayer(player)) {
-            return finding(BEYOND);
-        }
-        return fitting(trial.kind, player, KINDS, sheets[s]);
+        return fitting(s, player, trial.kind, KINDS);
     }
 
     // ---- strings
@@ -537,11 +520,9 @@ public final class OneShort {
     }
 
     public int write(int s, int i, int v) {
-        if (!isSheet(s)) {
-            return finding(BEYOND);
-        }
-        if (sheets[s].isMissing()) {
-            return finding(MISSING);
+        int lack = lackOf(s);
+        if (lack != NO_FINDING) {
+            return finding(lack);
         }
         if (i < 0 || i >= sheets[s].length) {
             return finding(BEYOND);
@@ -568,11 +549,9 @@ public final class OneShort {
     }
 
     public int load(int s) {
-        if (!isSheet(s)) {
-            return finding(BEYOND);
-        }
-        if (sheets[s].isMissing()) {
-            return finding(MISSING);
+        int lack = lackOf(s);
+        if (lack != NO_FINDING) {
+            return finding(lack);
         }
         int came = 0;
         for (int i = 0; i < sheets[s].length && i < BARS; i++) {
@@ -587,11 +566,9 @@ public final class OneShort {
     }
 
     public int judge(int s) {
-        if (!isSheet(s)) {
-            return finding(BEYOND);
-        }
-        if (sheets[s].isMissing()) {
-            return finding(MISSING);
+        int lack = lackOf(s);
+        if (lack != NO_FINDING) {
+            return finding(lack);
         }
         int[] row = sheets[s].numbers;
         for (int i = 0; i < sheets[s].length; i++) {
@@ -690,6 +667,14 @@ public final class OneShort {
         return s >= 0 && s < SHEETS;
     }
 
+    /** What is told of a sheet without numbers to look at. */
+    private int lackOf(int s) {
+        if (!isSheet(s)) {
+            return BEYOND;
+        }
+        return sheets[s].isMissing() ? MISSING : NO_FINDING;
+    }
+
     private int put(int[] row, int player, int v, int most) {
         if (v < 0 || v > most) {
             return finding(BEYOND);
@@ -715,13 +700,17 @@ public final class OneShort {
         return best;
     }
 
-    /** The set of numbers below an end with which, put into a row of the trial, NERVE goes as told. */
-    private int fitting(int[] trialRow, int player, int end, Sheet told) {
+    /** The set of numbers below an end with which, put into a row of the trial, NERVE goes as a sheet tells. */
+    private int fitting(int s, int player, int[] trialRow, int end) {
+        int lack = lackOf(s);
+        if (lack != NO_FINDING || !isPlayer(player)) {
+            return finding(lack != NO_FINDING ? lack : BEYOND);
+        }
         int set = 0;
         for (int v = 0; v < end; v++) {
             trial.become(orchestra);
             trialRow[player] = v;
-            if (trialGoesAs(told, player)) {
+            if (trialGoesAs(sheets[s], player)) {
                 set |= 1 << v;
             }
         }

@@ -2,6 +2,7 @@
 public final class EveningsTest {
     public static void main(String[] args) {
         go();
+        lastEvening();
         byWhatAllIsThen();
         now();
         ahead();
@@ -32,6 +33,25 @@ public final class EveningsTest {
         OneShort silent = Check.orchestra("late on 3 nerve 2;player on 3 part 1 nerve 1;bar 11 62");
         Check.due("the LATE one is there in bars 3 to 10", silent.go(1), 10 + 5);
         Check.due("held at 0 in bars 0 to 2, alone in bar 11", silent.of(1, 4), 5);
+    }
+
+    /** No 512 calls come so far; but what is written for it should hold. */
+    private static void lastEvening() {
+        OneShort x = new OneShort();
+        for (int i = 0; i < 4999; i++) {
+            x.go(20);
+        }
+        Check.due("go(20)", x.go(20), Check.STATE);
+        Check.due("go(21)", x.go(21), Check.BEYOND);
+        Check.due("go(17)", x.go(17), 0);
+        Check.due("strings(3)", x.strings(3), Check.STATE);
+        Check.due("strings(2)", x.strings(2), 0);
+        Check.due("now(0)", x.now(0), 99999);
+        Check.due("go(1)", x.go(1), Check.STATE);
+        Check.due("strings(1)", x.strings(1), Check.STATE);
+        Check.due("count(6)", x.count(6), -1770082073);
+        Check.due("settles()", x.settles(), 0);
+        Check.due("status(4)", x.status(4), 4);
     }
 
     private static void byWhatAllIsThen() {
@@ -91,6 +111,14 @@ public final class EveningsTest {
         }
         Check.due("broken(1)", edge.broken(1), 14);
         Check.due("broken(2)", edge.broken(2), 27);
+        OneShort last = Check.orchestra("player nerve 80;player on 1 part 1;bar 0 3");
+        for (int bar = 1; bar < 12; bar++) {
+            last.bar(bar, bar == 1 ? 1 : 0);
+        }
+        // 1 more and 3 less each evening.
+        Check.due("behind 40", last.broken(0), 40);
+        last.change(0, 4, 81);
+        Check.due("behind 41", last.broken(0), Check.NONE);
     }
 
     private static void settles() {

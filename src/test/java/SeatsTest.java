@@ -36,6 +36,7 @@ public final class SeatsTest {
         Check.due("bestSwap() of none", new OneShort().bestSwap(), Check.NONE);
         Check.due("bestSwap() of one", Check.orchestra("player").bestSwap(), Check.NONE);
         Check.due("bestSwap() of two", Check.orchestra("player;late").bestSwap(), 1);
+        Check.due("of several the least pair", Check.orchestra("player;player;player").bestSwap(), 1);
         OneShort x = Check.orchestra("player on 0 loud 9;player on 15 loud 0;player on 8 loud 0");
         Check.due("bestSwap()", x.bestSwap(), 2);
         Check.due("nothing changes", x.of(0, 1), 0);

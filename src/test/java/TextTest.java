@@ -88,6 +88,8 @@ public final class TextTest {
         tells("flute", -1 - 0);
         tells("Late", -1 - 0);
         tells(" lates", -1 - 1);
+        tells("latez", -1 - 0);
+        tells("latea 1", -1 - 0);
         tells("lat e", -1 - 0);
         tells("5", -1 - 0);
         tells("on 3", -1 - 0);
