@@ -43,6 +43,10 @@ public final class EveningsTest {
         }
         Check.due("go(20)", x.go(20), Check.STATE);
         Check.due("go(21)", x.go(21), Check.BEYOND);
+        x.image();
+        Check.due("go(19)", x.go(19), 0);
+        Check.due("now(0)", x.now(0), 99999);
+        x.undo();
         Check.due("go(17)", x.go(17), 0);
         Check.due("strings(3)", x.strings(3), Check.STATE);
         Check.due("strings(2)", x.strings(2), 0);

@@ -116,6 +116,8 @@ public final class SheetsTest {
         Check.fill(x, 1, 8, 9, 9, 9);
         Check.due("too many to come", x.copy(0, 0, 1, 0, 4), Check.BEYOND);
         Check.due("too many to go", x.copy(1, 0, 0, 0, 4), Check.BEYOND);
+        Check.due("too many to come from a later one", x.copy(0, 4, 1, 0, 2), Check.BEYOND);
+        Check.due("too many to go to a later one", x.copy(0, 0, 1, 2, 2), Check.BEYOND);
         Check.due("from below 0", x.copy(0, -1, 1, 0, 1), Check.BEYOND);
         Check.due("to below 0", x.copy(0, 0, 1, -1, 1), Check.BEYOND);
         Check.due("n below 0", x.copy(0, 1, 1, 1, -1), Check.BEYOND);

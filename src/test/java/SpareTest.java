@@ -5,6 +5,7 @@ public final class SpareTest {
         threeInARow();
         fewest();
         soundAlone();
+        atTheEnds();
         Check.end();
     }
 
@@ -52,6 +53,16 @@ public final class SpareTest {
         Check.due("fewest() by bars", late.fewest(), 2);
         late.bar(5, 32);
         Check.due("fewest() is rather one than the least of two", late.fewest(), 4);
+    }
+
+    private static void atTheEnds() {
+        OneShort x = Check.orchestra("player on 0 loud 1;player on 15 loud 2");
+        Check.due("lost(1)", x.lost(1), 12);
+        Check.due("lost(2)", x.lost(2), 24);
+        Check.due("lost(3)", x.lost(3), 36);
+        Check.due("spare()", x.spare(), 0);
+        Check.due("barOf(0, 2)", x.barOf(0, 2), 3);
+        Check.due("now(4)", x.now(4), 12 * 4);
     }
 
     /** Without its SOUND a PLAYER is still one of PART 0, for whom a MARRIED one PLAYS. */

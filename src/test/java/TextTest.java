@@ -88,6 +88,7 @@ public final class TextTest {
         tells("flute", -1 - 0);
         tells("Late", -1 - 0);
         tells(" lates", -1 - 1);
+        tells("gate", -1 - 0);
         tells("latez", -1 - 0);
         tells("latea 1", -1 - 0);
         tells("lat e", -1 - 0);
