@@ -29,8 +29,14 @@ final class Check {
     }
 
     static void feed(OneShort x, String text) {
-        for (int i = 0; i < text.length(); i++) {
-            due("feed '" + text.charAt(i) + "'", x.feed(text.charAt(i), 1), x.count(5));
+        int had = x.count(5);
+        for (int i = 0; i < text.length(); i += 4) {
+            int end = Math.min(text.length(), i + 4);
+            int bytes = 0;
+            for (int j = i; j < end; j++) {
+                bytes = bytes << 8 | text.charAt(j);
+            }
+            due("feed '" + text.substring(i, end) + "'", x.feed(bytes, end - i), had + end);
         }
     }
 

@@ -52,6 +52,8 @@ public final class EveningsTest {
         Check.due("strings(2)", x.strings(2), 0);
         Check.due("now(0)", x.now(0), 99999);
         Check.due("go(1)", x.go(1), Check.STATE);
+        Check.due("go(0), BEYOND is told first", x.go(0), Check.BEYOND);
+        Check.due("strings(13), BEYOND is told first", x.strings(13), Check.BEYOND);
         Check.due("strings(1)", x.strings(1), Check.STATE);
         Check.due("count(6)", x.count(6), -1770082073);
         Check.due("settles()", x.settles(), 0);
