@@ -504,6 +504,13 @@ public final class EdgesTest {
         Check.due("behind 38 EVENINGS", x.fits(0, 0), 30);
         x.write(0, 38, -2);
         Check.due("-2 isn't any", x.fits(0, 0), 0);
+        OneShort wed = inBars("player part 3;married on 1 part 2", 5);
+        Check.fill(wed, 0, 8, -1, 51);
+        Check.due("of PART 0, for then the MARRIED one PLAYS, too", wed.fits(0, 0), 1);
+        Check.fill(wed, 0, 8, -1, 47);
+        Check.due("of PART 2, alone", wed.fits(0, 0), 4);
+        Check.fill(wed, 0, 8, -1, 50);
+        Check.due("of all others, not PLAYING", wed.fits(0, 0), 63 - 1 - 4);
     }
 
     private static void kinds() {

@@ -150,7 +150,13 @@ public final class TermsTest {
         Check.due("NERVE 0", x.of(0, 5), 0);
         x.change(0, 4, 80);
         x.change(0, 2, 0);
+        bars(x, 2, 2, 2, 2, 2, 2, 2, 2, 2, 2, 2, 2);
+        Check.due("12 BARS in company", x.ahead(0, 1), 92);
         bars(x);
+        Check.due("alone in BAR 0, then it has 77", x.ahead(0, 1), 77);
+        x.change(0, 4, 99);
+        Check.due("alone in BARS 0 to 6, then it has 78", x.ahead(0, 1), 78);
+        x.change(0, 4, 80);
         int[] due = {0, 0, 0, 0, ALL, 0, 0};
         for (int kind = 0; kind < 7; kind++) {
             x.change(0, 0, kind);
