@@ -6,7 +6,11 @@ import java.nio.file.Files;
 import java.nio.file.Path;
 import java.util.ArrayList;
 import java.util.Collections;
+import java.util.HashMap;
+import java.util.HashSet;
 import java.util.List;
+import java.util.Map;
+import java.util.Set;
 import java.util.regex.Matcher;
 import java.util.regex.Pattern;
 
@@ -16,6 +20,7 @@ public final class LanguageTest {
         "throw", "throws", "try", "catch", "synchronized", "assert", "import", "package", "var", "yield", "protected",
         "toString", "hashCode", "System\\.out", "System\\.err", "System\\.exit", "\\w+Exact", "Object", "Thread", "Random"};
     private static final String[] FORBIDDEN_SIGNS = {"->", "::"};
+    private static final String LIBRARY = "Integer\\.bitCount|Math\\.(abs|max|min)|System\\.arraycopy";
 
     public static void main(String[] args) throws Exception {
         String source = Files.readString(Path.of("src/main/java/OneShort.java"));
@@ -30,6 +35,8 @@ public final class LanguageTest {
         face(Files.readString(Path.of("../shared/DOC.md")));
         classesInside();
         methodsAreShort(source);
+        libraryIsAllowed(code);
+        callsGoEightDeep(code);
         Check.end();
     }
 
@@ -67,7 +74,11 @@ public final class LanguageTest {
             }
         }
         List<Class<?>> classes = new ArrayList<>(List.of(OneShort.class.getDeclaredClasses()));
+        Check.due("classes", classes.size() + 1 > 12 ? 1 : 0, 0);
+        noPrivateNameOfTheFace(names);
+        staticFieldsAreFinal(OneShort.class);
         for (Class<?> inside : classes) {
+            staticFieldsAreFinal(inside);
             Check.due("static: " + inside, Modifier.isStatic(inside.getModifiers()) ? 1 : 0, 1);
             Check.due("fields of " + inside, inside.getDeclaredFields().length > 25 ? 1 : 0, 0);
             for (Method method : inside.getDeclaredMethods()) {
@@ -75,6 +86,60 @@ public final class LanguageTest {
                 Check.due("parameters of " + method, method.getParameterCount() > 7 ? 1 : 0, 0);
             }
         }
+    }
+
+    private static void noPrivateNameOfTheFace(List<String> names) {
+        for (Method method : OneShort.class.getDeclaredMethods()) {
+            boolean isPrivate = Modifier.isPrivate(method.getModifiers());
+            Check.due("no name of the face: " + method, isPrivate && names.contains(method.getName()) ? 1 : 0, 0);
+        }
+    }
+
+    private static void staticFieldsAreFinal(Class<?> one) {
+        for (Field field : one.getDeclaredFields()) {
+            int modifiers = field.getModifiers();
+            Check.due("final: " + field, Modifier.isStatic(modifiers) && !Modifier.isFinal(modifiers) ? 1 : 0, 0);
+        }
+    }
+
+    private static void libraryIsAllowed(String code) {
+        Matcher m = Pattern.compile("\\b(Integer|Long|Math|System|Arrays|String|List)\\.(\\w+)").matcher(code);
+        while (m.find()) {
+            Check.due("of the library: " + m.group(), m.group().matches(LIBRARY) ? 1 : 0, 1);
+        }
+    }
+
+    private static void callsGoEightDeep(String code) {
+        Map<String, Set<String>> calls = new HashMap<>();
+        String method = "";
+        for (String line : code.split("\n")) {
+            Matcher begin = Pattern.compile(" {4}( {4})?(?:[A-Za-z\\[\\]]+ )+(\\w+)\\([^;]*\\) \\{").matcher(line);
+            if (begin.matches()) {
+                method = begin.group(2);
+                // One of the same name in another class would be taken for this one.
+                Check.due("only one is called " + method, calls.containsKey(method) ? 1 : 0, 0);
+                calls.put(method, new HashSet<>());
+                continue;
+            }
+            Matcher call = Pattern.compile("(?<!Math\\.|Integer\\.|word\\.)\\b(\\w+)\\(").matcher(line);
+            while (calls.containsKey(method) && call.find()) {
+                calls.get(method).add(call.group(1));
+            }
+        }
+        Check.due("methods found", calls.size() > 100 ? 1 : 0, 1);
+        for (String name : calls.keySet()) {
+            Check.due("deeper than eight, or in a ring: " + name, depth(calls, name, 1) > 8 ? 1 : 0, 0);
+        }
+    }
+
+    private static int depth(Map<String, Set<String>> calls, String name, int above) {
+        int most = above;
+        for (String called : calls.get(name)) {
+            if (above <= 8 && calls.containsKey(called)) {
+                most = Math.max(most, depth(calls, called, above + 1));
+            }
+        }
+        return most;
     }
 
     private static void methodsAreShort(String source) {
